@@ -4,6 +4,7 @@ public final class HelpTest {
 
     public static void main(String[] args) {
         tips();
+        neverButByTipping();
         spring();
         kind();
         kindByNight();
@@ -55,6 +56,24 @@ public final class HelpTest {
         x.tortoise(Due.YOUNG, 16, 1);
         d.due("whoever has it then", x.soonest(26, 0), 2);
         d.due("no sooner by either", x.tips(26, 0), Due.NONE);
+    }
+
+    /** A pamphlet goes south from the wall by night, unless it is tipped and its book goes to an old one. */
+    private static void neverButByTipping() {
+        TortoiseShelves x = new TortoiseShelves();
+        for (int cell = 12; cell < 18; cell++) {
+            x.fence(cell, 1);
+        }
+        x.spot(0, 2);
+        x.spot(2, 26);
+        x.hours(20);
+        x.rain(1 << 22);
+        x.tortoise(Due.OLD, 14, 0);
+        x.tortoise(Due.PAMPHLET, 14, 1);
+        d.due("never as it is", x.soonest(8, 0), Due.NONE);
+        d.due("tipped, it gives the book away", x.tips(8, 0), 1);
+        x.set(1, 3, 1);
+        d.due("then the old one comes out in the rain", x.soonest(8, 0), 3);
     }
 
     private static void spring() {

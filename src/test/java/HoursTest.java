@@ -14,6 +14,7 @@ public final class HoursTest {
         when();
         meet();
         carries();
+        eight();
         d.end();
     }
 
@@ -299,5 +300,31 @@ public final class HoursTest {
             d.due("carries(0, " + far + ")", x.carries(0, far), Due.BEYOND);
         }
         d.due("nothing changed", x.of(0, 2), 0);
+    }
+
+    /** As many as there may be, so that a step beyond the last one would be seen. */
+    private static void eight() {
+        TortoiseShelves x = new TortoiseShelves();
+        for (int i = 0; i < 8; i++) {
+            d.due("tortoise " + i, Due.tipped(x, 20 + i, 1 << i), i);
+        }
+        x.tortoise(0, 0, 0);
+        d.due("hours(1)", x.hours(1), 8);
+        d.due("now(3)", x.now(3), 8);
+        d.due("now(4)", x.now(4), 255);
+        d.due("now(5)", x.now(5), 255 << 20);
+        d.due("count(3)", x.count(3), 8);
+        d.due("carries(7, 72)", x.carries(7, 72), 128);
+        d.due("cell(27, 1)", x.cell(27, 1), 128);
+        d.due("cell(27, 2)", x.cell(27, 2), 128);
+        d.due("on(7, 9, 0)", x.on(7, 9, 0), 27);
+        d.due("meet(6, 7)", x.meet(6, 7), Due.NONE);
+        d.due("soonest(29, 7)", x.soonest(29, 7), 2);
+        d.due("many(29, 48)", x.many(29, 48), 8);
+        d.due("tips(0, 0)", x.tips(0, 0), Due.NONE);
+        x.set(7, 3, 0);
+        d.due("count(3), one upright", x.count(3), 7);
+        d.due("tips(29, 7)", x.tips(29, 7), 7);
+        d.due("kind(7, 14)", x.kind(7, 14), Due.PAMPHLET);
     }
 }

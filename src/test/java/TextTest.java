@@ -103,6 +103,8 @@ public final class TextTest {
         d.due("spring", x.spot(0, 0), 1);
         d.due("shade", x.spot(1, 0), 2);
         d.due("beach", x.spot(2, 0), 29);
+        d.due("spots in 0", Due.island(x, "spring 0;shade 0;beach 0"), 3);
+        d.due("beach 0", x.spot(2, 9), 0);
         d.due("the last one holds", Due.island(x, "spring 4;spring 5"), 2);
         d.due("spring 5", x.spot(0, 0), 5);
     }
@@ -148,6 +150,13 @@ public final class TextTest {
         fault("free 30", 5);
         fault("fences 3", 0);
         fault("fenc 3", 0);
+        fault("fencez 3", 0);
+        fault("xence 3", 0);
+        fault("afence 3", 0);
+        fault("fence` 3", 5);
+        fault("fence{ 3", 5);
+        fault("fence 3/", 7);
+        fault("fence 3:", 7);
         fault("Fence 3", 0);
         fault("fEnce 3", 0);
         fault("3 fence", 0);
