@@ -12,6 +12,7 @@ public final class TortoiseShelves {
     private static final int SIZE = 6;
     private static final int FINDINGS = 7;
     private static final int FIRST_FINDING = -1000000001;
+    private static final int NO_FINDING = 0;
 
     private static final int COLUMNS = 6;
     private static final int CELLS = 30;
@@ -229,7 +230,7 @@ public final class TortoiseShelves {
             case 1:
                 return isle.clock();
             case 2:
-                return isle.isRaining() ? 1 : 0;
+                return isle.rainsAt(isle.clock()) ? 1 : 0;
             case 3:
                 return isle.booksOfAll();
             case 4:
@@ -278,33 +279,27 @@ public final class TortoiseShelves {
     // ---- readers
 
     public int soonest(int cell, int subject) {
-        if (!isCell(cell) || !isSubject(subject)) {
-            return finding(BEYOND);
-        }
-        if (isle.isFenced(cell)) {
-            return finding(STATE);
+        int asked = askOfReader(cell, subject);
+        if (asked != NO_FINDING) {
+            return asked;
         }
         reader.goesFrom(cell, isle);
         return hoursOrNone(reader.seek(subject, READERS_HOURS));
     }
 
     public int where(int cell, int subject) {
-        if (!isCell(cell) || !isSubject(subject)) {
-            return finding(BEYOND);
-        }
-        if (isle.isFenced(cell)) {
-            return finding(STATE);
+        int asked = askOfReader(cell, subject);
+        if (asked != NO_FINDING) {
+            return asked;
         }
         reader.goesFrom(cell, isle);
         return placeOrNone(reader.seek(subject, READERS_HOURS));
     }
 
     public int waits(int cell, int subject) {
-        if (!isCell(cell) || !isSubject(subject)) {
-            return finding(BEYOND);
-        }
-        if (isle.isFenced(cell)) {
-            return finding(STATE);
+        int asked = askOfReader(cell, subject);
+        if (asked != NO_FINDING) {
+            return asked;
         }
         reader.staysInOneOf(1 << cell, isle);
         return hoursOrNone(reader.seek(subject, READERS_HOURS));
@@ -330,22 +325,24 @@ public final class TortoiseShelves {
     }
 
     public int both(int cell, int one, int other) {
-        if (!isCell(cell) || !isSubject(one) || !isSubject(other) || one == other) {
+        if (!isSubject(other) || one == other) {
             return finding(BEYOND);
         }
-        if (isle.isFenced(cell)) {
-            return finding(STATE);
+        int asked = askOfReader(cell, one);
+        if (asked != NO_FINDING) {
+            return asked;
         }
         reader.goesFrom(cell, isle);
         return hoursOrNone(reader.seekTwo(one, other, READERS_HOURS));
     }
 
     public int censors(int cell, int subject, int fenced) {
-        if (!isCell(cell) || !isSubject(subject) || !isCell(fenced) || fenced == cell) {
+        if (!isCell(fenced) || fenced == cell) {
             return finding(BEYOND);
         }
-        if (isle.isFenced(cell)) {
-            return finding(STATE);
+        int asked = askOfReader(cell, subject);
+        if (asked != NO_FINDING) {
+            return asked;
         }
         reader.goesFrom(cell, isle);
         int free = reader.seek(subject, READERS_HOURS);
@@ -361,22 +358,18 @@ public final class TortoiseShelves {
     // ---- what helps
 
     public int tips(int cell, int subject) {
-        if (!isCell(cell) || !isSubject(subject)) {
-            return finding(BEYOND);
-        }
-        if (isle.isFenced(cell)) {
-            return finding(STATE);
+        int asked = askOfReader(cell, subject);
+        if (asked != NO_FINDING) {
+            return asked;
         }
         int best = bestTipped(cell, subject);
         return best == NEVER ? finding(NONE) : best;
     }
 
     public int spring(int cell, int subject) {
-        if (!isCell(cell) || !isSubject(subject)) {
-            return finding(BEYOND);
-        }
-        if (isle.isFenced(cell)) {
-            return finding(STATE);
+        int asked = askOfReader(cell, subject);
+        if (asked != NO_FINDING) {
+            return asked;
         }
         int best = bestSpring(cell, subject);
         return best == NEVER ? finding(NONE) : best;
@@ -437,13 +430,11 @@ public final class TortoiseShelves {
     }
 
     public long write(int s, int i, long v) {
-        if (!isBelow(s, SHEETS)) {
-            return finding(BEYOND);
+        int asked = askOfSheet(s);
+        if (asked != NO_FINDING) {
+            return asked;
         }
         Sheet sheet = sheets[s];
-        if (sheet.isMissing()) {
-            return finding(MISSING);
-        }
         if (!isBelow(i, sheet.length)) {
             return finding(BEYOND);
         }
@@ -472,23 +463,19 @@ public final class TortoiseShelves {
     }
 
     public int lays(int s) {
-        if (!isBelow(s, SHEETS)) {
-            return finding(BEYOND);
-        }
-        if (sheets[s].isMissing()) {
-            return finding(MISSING);
+        int asked = askOfSheet(s);
+        if (asked != NO_FINDING) {
+            return asked;
         }
         return laysBooks(sheets[s]);
     }
 
     public int book(int s, int tortoise) {
-        if (!isBelow(s, SHEETS)) {
-            return finding(BEYOND);
+        int asked = askOfSheet(s);
+        if (asked != NO_FINDING) {
+            return asked;
         }
         Sheet sheet = sheets[s];
-        if (sheet.isMissing()) {
-            return finding(MISSING);
-        }
         if (!isle.has(tortoise)) {
             return finding(BEYOND);
         }
@@ -501,11 +488,9 @@ public final class TortoiseShelves {
     }
 
     public int read(int s, int tortoise) {
-        if (!isBelow(s, SHEETS)) {
-            return finding(BEYOND);
-        }
-        if (sheets[s].isMissing()) {
-            return finding(MISSING);
+        int asked = askOfSheet(s);
+        if (asked != NO_FINDING) {
+            return asked;
         }
         if (!isle.has(tortoise)) {
             return finding(BEYOND);
@@ -575,6 +560,20 @@ public final class TortoiseShelves {
     private int finding(int which) {
         found[which]++;
         return FIRST_FINDING - which;
+    }
+
+    private int askOfReader(int cell, int subject) {
+        if (!isCell(cell) || !isSubject(subject)) {
+            return finding(BEYOND);
+        }
+        return isle.isFenced(cell) ? finding(STATE) : NO_FINDING;
+    }
+
+    private int askOfSheet(int s) {
+        if (!isBelow(s, SHEETS)) {
+            return finding(BEYOND);
+        }
+        return sheets[s].isMissing() ? finding(MISSING) : NO_FINDING;
     }
 
     private int hoursOrNone(int hours) {
@@ -763,8 +762,8 @@ public final class TortoiseShelves {
             return hour % CLOCKS;
         }
 
-        boolean isRaining() {
-            return (wetClocks >> clock() & 1) == 1;
+        boolean rainsAt(int clock) {
+            return (wetClocks >> clock & 1) == 1;
         }
 
         int allTortoises() {
@@ -826,22 +825,22 @@ public final class TortoiseShelves {
         }
 
         int aimOf(int tortoise) {
+            int clock = clock();
             switch (kinds[tortoise]) {
                 case LAW:
-                    return aimOfLaw();
+                    return aimOfLaw(clock);
                 case OLD:
-                    return isRaining() ? spots[SPRING] : cells[tortoise];
+                    return rainsAt(clock) ? spots[SPRING] : cells[tortoise];
                 case PAMPHLET:
-                    return clock() >= 20 ? spots[BEACH] : spots[SPRING];
+                    return clock >= 20 ? spots[BEACH] : spots[SPRING];
                 case CANON:
-                    return isRaining() ? spots[BEACH] : aimOfLaw();
+                    return rainsAt(clock) ? spots[BEACH] : aimOfLaw(clock);
                 default:
                     return spots[SPRING];
             }
         }
 
-        private int aimOfLaw() {
-            int clock = clock();
+        private int aimOfLaw(int clock) {
             return clock >= 10 && clock <= 15 ? spots[SHADE] : spots[SPRING];
         }
 
@@ -988,7 +987,8 @@ public final class TortoiseShelves {
                 if (readsIn != 0) {
                     return h;
                 }
-                goOn();
+                isle.goAnHour();
+                reach = onwards(reach);
             }
             return NEVER;
         }
@@ -1004,9 +1004,10 @@ public final class TortoiseShelves {
                 if ((afterOne & others) != 0 || (afterOther & ones) != 0) {
                     return h;
                 }
-                afterOne = spread(afterOne);
-                afterOther = spread(afterOther);
-                goOn();
+                afterOne = onwards(afterOne);
+                afterOther = onwards(afterOther);
+                isle.goAnHour();
+                reach = onwards(reach);
             }
             return NEVER;
         }
@@ -1015,7 +1016,8 @@ public final class TortoiseShelves {
             int subjects = 0;
             for (int h = 0; h <= last; h++) {
                 subjects |= isle.subjectsIn(reach);
-                goOn();
+                isle.goAnHour();
+                reach = onwards(reach);
             }
             return subjects;
         }
@@ -1024,14 +1026,10 @@ public final class TortoiseShelves {
             return isle.cellsOf(isle.tortoisesWith(subject));
         }
 
-        private void goOn() {
-            isle.goAnHour();
-            if (!stays) {
-                reach = spread(reach);
+        private int onwards(int from) {
+            if (stays) {
+                return from;
             }
-        }
-
-        private int spread(int from) {
             int left = (from & ~LEFT_COLUMN) >> 1;
             int right = (from & ~RIGHT_COLUMN) << 1;
             int above = from >> COLUMNS;
@@ -1222,34 +1220,26 @@ public final class TortoiseShelves {
                 at++;
             }
             tokenAt = at;
-            tokenEnd = at;
             if (at >= length) {
                 token = END;
             } else if (isLetter(bytes[at])) {
                 token = WORD;
-                passLetters();
+                while (at < length && isLetter(bytes[at])) {
+                    at++;
+                }
             } else if (isDigit(bytes[at])) {
                 token = NUMBER;
-                passDigits();
+                number = 0;
+                while (at < length && isDigit(bytes[at])) {
+                    // held at a bound, lest a long row of digits wrap around to a number that may be
+                    number = Math.min(number * 10 + bytes[at] - '0', ABOVE_ALL_NUMBERS);
+                    at++;
+                }
             } else {
                 token = bytes[at] == ';' ? SIGN : ODD;
-                tokenEnd = at + 1;
+                at++;
             }
-        }
-
-        private void passLetters() {
-            while (tokenEnd < length && isLetter(bytes[tokenEnd])) {
-                tokenEnd++;
-            }
-        }
-
-        private void passDigits() {
-            number = 0;
-            while (tokenEnd < length && isDigit(bytes[tokenEnd])) {
-                // held at a bound, lest a long row of digits wrap around to a number that may be
-                number = Math.min(number * 10 + bytes[tokenEnd] - '0', ABOVE_ALL_NUMBERS);
-                tokenEnd++;
-            }
+            tokenEnd = at;
         }
 
         private static boolean isLetter(int b) {
