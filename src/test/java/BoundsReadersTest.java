@@ -22,6 +22,7 @@ public final class BoundsReadersTest {
         spring();
         springFenced();
         kind();
+        kindWithin72();
         everyWalk();
         lastOf48();
         oneCell();
@@ -241,6 +242,24 @@ public final class BoundsReadersTest {
         b.refused("kind: no such one, no such cell", COMMUTER, x -> x.kind(1, 30), Due.BEYOND);
         Supplier<TortoiseShelves> held = () -> fenced(Scene.commuter(), 1, 6);
         b.refused("kind: fenced in", held, x -> x.kind(0, 29), Due.NONE);
+    }
+
+    private static void kindWithin72() {
+        for (int own = 0; own < 6; own++) {
+            int k = own;
+            Supplier<TortoiseShelves> at17 = () -> Scene.threeDays(17, k);
+            Supplier<TortoiseShelves> at18 = () -> Scene.threeDays(18, k);
+            Supplier<TortoiseShelves> at19 = () -> Scene.threeDays(19, k);
+            b.quiet("kind: in the 71st hour, now " + k, at19, x -> x.kind(0, 14), Due.CANON);
+            b.quiet("kind: in the 72nd hour, now " + k, at18, x -> x.kind(0, 14), Due.CANON);
+            b.refused("kind: in the 73rd hour, now " + k, at17, x -> x.kind(0, 14), Due.NONE);
+        }
+        Supplier<TortoiseShelves> canon = () -> Scene.threeDays(18, Due.CANON);
+        int[][] way = {{15, 5}, {16, 11}, {17, 17}, {18, 23}, {19, 17}, {20, 23}, {22, 28}, {25, 10}, {40, 10}, {46, 27},
+            {50, 3}, {63, 3}, {64, 9}, {70, 26}, {71, 20}, {72, 14}};
+        for (int[] w : way) {
+            b.quiet("a canon's way, on " + w[0], canon, x -> x.on(0, w[0], 0), w[1]);
+        }
     }
 
     /** From each cell to each: left, right, above, below, and never over an edge. */

@@ -4,7 +4,9 @@ import java.lang.reflect.Method;
 import java.lang.reflect.Modifier;
 import java.nio.file.Files;
 import java.nio.file.Path;
+import java.util.ArrayList;
 import java.util.Arrays;
+import java.util.List;
 import java.util.Set;
 import java.util.TreeSet;
 import java.util.regex.Matcher;
@@ -34,6 +36,9 @@ public final class FaceTest {
         face();
         nested();
         source();
+        fieldsAndParameters();
+        library();
+        methodLengths();
         d.end();
     }
 
@@ -90,11 +95,74 @@ public final class FaceTest {
                 d.due("a sign of the source at " + i, text.charAt(i), 126);
             }
         }
-        String code = text.replaceAll("(?s)/\\*.*?\\*/", " ").replaceAll("//[^\n]*", " ").replaceAll("\"[^\"\n]*\"", "\"\"");
         Matcher m = Pattern.compile("\\b(throw|throws|try|catch|synchronized|assert|import|package|Exact|Object|System\\.(?!arraycopy)\\w+)\\b|->|::")
-            .matcher(code);
+            .matcher(code());
         while (m.find()) {
             d.due("the source has " + m.group(), 1, 0);
         }
+    }
+
+    /** The source without comments and texts, line by line as it was. */
+    private static String code() throws IOException {
+        String text = Files.readString(SOURCE);
+        Matcher comments = Pattern.compile("(?s)/\\*.*?\\*/").matcher(text);
+        return comments.replaceAll(m -> m.group().replaceAll("[^\n]", "")).replaceAll("//[^\n]*", "")
+            .replaceAll("\"[^\"\n]*\"", "\"\"");
+    }
+
+    /** Rules 3, 5 and 11: types of fields, no static state, some twenty fields, seven parameters. */
+    private static void fieldsAndParameters() {
+        List<Class<?>> all = new ArrayList<>(Arrays.asList(TortoiseShelves.class.getDeclaredClasses()));
+        all.add(TortoiseShelves.class);
+        for (Class<?> c : all) {
+            int own = 0;
+            for (Field f : c.getDeclaredFields()) {
+                boolean isStatic = Modifier.isStatic(f.getModifiers());
+                own += isStatic ? 0 : 1;
+                Class<?> type = f.getType().isArray() ? f.getType().getComponentType() : f.getType();
+                boolean plain = type.isPrimitive() || type == String.class;
+                d.due(f + " is of a type that may be", plain || !isStatic && all.contains(type) ? 1 : 0, 1);
+                d.due(f + " is no static state", !isStatic || Modifier.isFinal(f.getModifiers()) ? 1 : 0, 1);
+            }
+            d.due(c + " has some twenty fields at most", own <= 20 ? 1 : 0, 1);
+            for (Method m : c.getDeclaredMethods()) {
+                d.due(m + " has seven parameters at most", m.getParameterCount() <= 7 ? 1 : 0, 1);
+            }
+        }
+    }
+
+    /** Rule 4: nothing of the library but what it lists. */
+    private static void library() throws IOException {
+        Set<String> may = Set.of("Integer.bitCount", "Math.min", "Math.max", "System.arraycopy");
+        Matcher m = Pattern.compile("\\b(Integer|Long|Math|System|Arrays|Character|List|Objects?|String|Boolean)\\.\\w+")
+            .matcher(code());
+        while (m.find()) {
+            d.due("the source uses " + m.group(), may.contains(m.group()) ? 1 : 0, 1);
+        }
+        Matcher made = Pattern.compile("\\bnew (\\w+)").matcher(code());
+        Set<String> makes = Set.of("Island", "Reader", "Tape", "Sheet", "int", "long", "boolean");
+        while (made.find()) {
+            d.due("the source makes " + made.group(1), makes.contains(made.group(1)) ? 1 : 0, 1);
+        }
+    }
+
+    /** Rule 11: some sixty lines a method. */
+    private static void methodLengths() throws IOException {
+        String[] lines = code().split("\n", -1);
+        Pattern head = Pattern.compile("^( +)(?:(?:public|private|static|final) )*[\\w\\[\\]]+ ?\\w*\\(.*\\) \\{$");
+        int methods = 0;
+        for (int i = 0; i < lines.length; i++) {
+            Matcher m = head.matcher(lines[i]);
+            if (!m.matches() || lines[i].matches(" +(if|for|while|switch|\\}).*")) {
+                continue;
+            }
+            int end = i;
+            while (end < lines.length && !lines[end].equals(m.group(1) + "}")) {
+                end++;
+            }
+            methods++;
+            d.due("lines of " + lines[i].trim(), end - i < 60 ? 1 : 0, 1);
+        }
+        d.due("methods seen", methods > FACE.length ? 1 : 0, 1);
     }
 }

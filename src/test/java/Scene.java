@@ -132,6 +132,22 @@ final class Scene {
         return x;
     }
 
+    /**
+     * One in 5 next to its fenced spring, with rain at 9 and at 12. As CANON it comes to rest in 10 on the first
+     * day and in 3 on the second, and on the third it is in 14 behind CLOCK 17; as another KIND it never is.
+     */
+    static TortoiseShelves threeDays(int hour, int kind) {
+        TortoiseShelves x = new TortoiseShelves();
+        x.hours(hour);
+        x.fence(4, 1);
+        x.spot(0, 4);
+        x.spot(1, 24);
+        x.spot(2, 10);
+        x.rain(Due.bits(9, 12));
+        x.tortoise(kind, 5, Due.bits(0));
+        return x;
+    }
+
     static void sheet(TortoiseShelves x, int s, int bits, long... numbers) {
         x.sheet(s, bits, numbers.length);
         for (int i = 0; i < numbers.length; i++) {
